@@ -35,8 +35,9 @@ public final class GroundKeeper {
     private int ticks;
 
     public GroundKeeper() {
-        ground = new Ground();
-        finder = new Finder(ground);
+        Ground empty = new Ground();
+        ground = empty;
+        finder = new Finder(empty);
         latestWay = new Row();
         walkers = new Walker[MOST_WALKERS];
         for (int i = 0; i < MOST_WALKERS; i++) {
@@ -751,6 +752,7 @@ public final class GroundKeeper {
         private void gather(int from, int to) {
             size = 0;
             addNode(from);
+            // A walker's goal may be off the ground by now: then no step to it is open.
             addNode(to);
             for (int i = 0; i < ground.rooms.size * CORNERS; i++) {
                 addIfFree(ground.rooms.all[i / CORNERS].corner(i % CORNERS));

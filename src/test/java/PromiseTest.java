@@ -40,6 +40,7 @@ public final class PromiseTest {
         count();
         digest();
         refusalsChangeNothing();
+        fullObject();
         DUE.end();
     }
 
@@ -132,7 +133,10 @@ public final class PromiseTest {
         is("3: it stands on an edge", g.box(0, 5, 4, 7, 6), 0);
         is("3: it stands at a corner", g.box(0, 3, 5, 5, 7), 1);
         is("3: it is on another level", g.box(1, 4, 4, 6, 6), 2);
-        for (int i = 3; i < 8; i++) {
+        is("3: it stands on the edge of x1", g.box(0, 4, 4, 5, 6), 3);
+        is("3: it stands on the edge of y0", g.box(0, 4, 5, 6, 6), 4);
+        is("3: it stands on the edge of y1", g.box(0, 4, 4, 6, 5), 5);
+        for (int i = 6; i < 8; i++) {
             is("3: box " + i, g.box(2, 0, 0, 1, 1), i);
         }
         is("3: no comes before full", g.box(0, 4, 4, 6, 6), NO);
@@ -270,6 +274,9 @@ public final class PromiseTest {
         g.box(1, 12, 12, 16, 16);
         is("9: inside a box", g.may(1, 13, 15), 0);
         is("9: on a box's edge", g.may(1, 12, 14), 1);
+        is("9: on its edge of x1", g.may(1, 16, 14), 1);
+        is("9: on its edge of y0", g.may(1, 14, 12), 1);
+        is("9: on its edge of y1", g.may(1, 14, 16), 1);
         is("9: at a box's corner", g.may(1, 16, 16), 1);
         g.box(1, 11, 11, 13, 15);
         is("9: on an edge of one, inside another", g.may(1, 12, 14), 0);
@@ -385,6 +392,10 @@ public final class PromiseTest {
         h.ledge(0, 10, 0, 10, 20, false);
         is("10: falling, toward less x", h.see(0, 15, 10, 5, 10), 1);
         is("10: falling, toward greater x", h.see(0, 5, 10, 15, 10), -11);
+        is("10: falling, up to it", h.see(0, 5, 10, 10, 10), 1);
+        is("10: falling, away from it", h.see(0, 10, 10, 15, 10), 1);
+        is("10: falling, short of it", h.see(0, 5, 10, 9, 10), 1);
+        is("10: falling, beyond it", h.see(0, 11, 10, 15, 10), 1);
         GroundKeeper i = hall();
         i.ledge(0, 5, 10, 15, 10, true);
         is("10: along x rising, toward greater y", i.see(0, 8, 5, 8, 15), 1);
@@ -946,5 +957,53 @@ public final class PromiseTest {
         g.way(0, 6, 6, 0, 1, 1);
         is("refused calls change nothing", g.digest(), before);
         is("refused calls leave no way", g.bend(0, 0), NONE);
+    }
+
+    /** All that there can be, on three levels: a street of four rooms each, and two ladders at each end. */
+    private static void fullObject() {
+        GroundKeeper g = new GroundKeeper();
+        for (int i = 0; i < 12; i++) {
+            g.room(i / 4, i % 4 * 25, 0, i % 4 * 25 + 25, 20);
+        }
+        for (int i = 0; i < 6; i++) {
+            g.door(i / 2, 40, 0, 40, 20);
+            g.ledge(i / 2, 30, 0, 30, 20, true);
+            g.ladder(i % 2, 100, 10, i % 2 + 1, 100, 10, 1000 + i);
+        }
+        for (int i = 0; i < 8; i++) {
+            g.box(i % 3, 10, 10 * (i / 3 % 2), 20, 10 * (i / 3 % 2) + 10);
+        }
+        for (int i = 0; i < 6; i++) {
+            is("full: walker " + i, g.walker(0, i, 10), i);
+        }
+        is("full: room", g.room(0, 0, 0, 1, 1), FULL);
+        is("full: box", g.box(0, 30, 0, 31, 1), FULL);
+        is("full: door", g.door(0, 0, 0, 0, 1), FULL);
+        is("full: ledge", g.ledge(0, 0, 0, 0, 1, true), FULL);
+        is("full: ladder", g.ladder(0, 0, 0, 1, 0, 0, 1), FULL);
+        is("full: walker", g.walker(0, 50, 5), FULL);
+        is("full: see between boxes, over all rooms", g.see(0, 0, 10, 100, 10), 1);
+        is("full: see back", g.see(0, 100, 10, 0, 10), -11);
+        is("full: way", g.way(0, 0, 10, 2, 31, 10), 100000 + 1000 + 1001 + 69000);
+        is("full: places of the way", g.bend(4, 0) + g.bend(5, 0), 31 - 1);
+        is("full: reach", g.reach(0, 0, 10), 16 + 10 + 10);
+        for (int i = 0; i < 6; i++) {
+            is("full: go " + i, g.go(i, 2, 31 + i, 10), 4);
+        }
+        is("full: the first step", g.tick(1), 6);
+        is("full: the first one is there", g.about(0, 0), 100);
+        is("full: the next one waits", g.about(1, 4), 1);
+        is("full: no one goes any more", g.tick(10), 0);
+        for (int i = 0; i < 6; i++) {
+            is("full: x of " + i, g.about(i, 0), i < 3 ? 31 + i : i);
+            is("full: level of " + i, g.about(i, 2), i < 3 ? 2 : 0);
+            is("full: those who looked when the only ladder was taken are stuck", g.about(i, 5), i < 3 ? 0 : 1);
+        }
+        for (int i = 0; i < 6; i++) {
+            is("full: shut " + i, g.shut(i, true), 1);
+        }
+        is("full: the last door", g.see(2, 33, 10, 50, 10), -10);
+        is("full: beside the doors", g.see(2, 41, 10, 50, 10), 1);
+        is("full: one on a shut door", g.walker(2, 40, 10), NO);
     }
 }
