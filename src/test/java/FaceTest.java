@@ -27,6 +27,7 @@ public final class FaceTest {
         members();
         nested();
         text();
+        methodsOfTheText();
         DUE.end();
     }
 
@@ -99,5 +100,30 @@ public final class FaceTest {
         for (String line : whole.split("\n")) {
             DUE.holds("a line of at most 110 characters: " + line, line.length() <= 110);
         }
+    }
+
+    /** Methods stay short, and objects are made in constructors alone: a run has little room. */
+    private static void methodsOfTheText() throws IOException {
+        Pattern constructor = Pattern.compile(" +(public )?[A-Z]\\w*\\([^)]*\\) \\{");
+        Pattern method = Pattern.compile(" +(public |private |static )*[\\w\\[\\]]+ \\w+\\([^)]*\\) \\{");
+        String header = "";
+        boolean making = false;
+        int lines = 0;
+        int seen = 0;
+        for (String line : Files.readAllLines(Path.of("src/main/java/GroundKeeper.java"))) {
+            boolean begins = constructor.matcher(line).matches();
+            boolean isMethod = !begins && method.matcher(line).matches() && !line.contains("else if");
+            if (begins || isMethod) {
+                header = line.trim();
+                making = begins;
+                lines = 0;
+                seen++;
+            }
+            lines++;
+            DUE.holds(header + " has at most sixty lines", lines <= 60 || !line.startsWith("        "));
+            boolean makes = line.matches(".*\\bnew [A-Za-z].*") && !line.contains("*");
+            DUE.holds("nothing is made in " + header, making || !makes);
+        }
+        DUE.holds("methods were seen", seen > 60);
     }
 }
